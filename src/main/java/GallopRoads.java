@@ -314,7 +314,7 @@ public final class GallopRoads {
         demandWind(wind);
         int best = NONE;
         int bestCost = 0;
-        for (int bits = 0; bits < 1 << road.mends.count && bits < 1 << Mends.MOST_MENDS; bits++) {
+        for (int bits = 0; bits < 1 << road.mends.count; bits++) {
             int cost = road.mends.costOf(bits);
             if (best == NONE || cost < bestCost) {
                 trial.copy(road.deck);
@@ -337,7 +337,7 @@ public final class GallopRoads {
         built.copy(road.deck);
         int made = 0;
         int chosen = NONE;
-        for (int d = 0; d <= day && d < Mends.MOST_MENDS; d++) {
+        for (int d = 0; d <= day; d++) {
             chosen = bestMend(told, made);
             road.mends.make(chosen, built);
             made |= 1 << chosen;
@@ -546,7 +546,7 @@ public final class GallopRoads {
         return NONE;
     }
 
-    /** The greatest wind up to which, from one on, the deck that trial is is calm; else one less than that. */
+    /** The greatest wind up to which the trial deck is calm at all from one on; one less than that if at none. */
     private int trialIsCalmUpTo(Law law, int from, int most) {
         for (int wind = from; wind <= most; wind++) {
             for (int k = 0; k < CALM_SHAPES; k++) {
@@ -562,8 +562,9 @@ public final class GallopRoads {
     /** Of the mends that are not among those made, the best for the next day of the week. */
     private int bestMend(Law law, int made) {
         int best = NONE;
-        int bestWind = 0;
-        for (int k = 0; k < road.mends.count && k < Mends.MOST_MENDS; k++) {
+        int bestWind = NONE;
+        // what is calm as far as winds are tried can't be beaten, and the first of the best is due
+        for (int k = 0; k < road.mends.count && bestWind < MOST_CALM_WIND; k++) {
             if ((made >> k & 1) == 0) {
                 trial.copy(built);
                 road.mends.make(k, trial);
@@ -929,7 +930,7 @@ public final class GallopRoads {
                 } else if (step == NOT) {
                     stack.put(top - 1, 1 - last);
                 } else if (step == SIGN) {
-                    stack.put(top - 1, Integer.signum(last));
+                    stack.put(top - 1, last > 0 ? 1 : last < 0 ? -1 : 0);
                 } else {
                     top--;
                     stack.put(top - 1, ofTwo(step, stack.at(top - 1), last));

@@ -11,6 +11,7 @@ public final class DeckTest {
         shapes();
         goes();
         ticksByHand();
+        losses();
         twistsByHand();
         bounds();
         slips();
@@ -178,6 +179,19 @@ public final class DeckTest {
         row("9: turns", x, 1, 0, 0, 0);
     }
 
+    private static void losses() {
+        GallopRoads x = DeckTest.bare("lift 9999 if tick=0;twist 1999 if tick=0;");
+        x.go(0, 0, 1);
+        x.set(4, 50);
+        x.go(0, 0, 1);
+        // 50*9999/100 is 4999 and a half
+        row("9: half is lost of up", x, 2, 5000, 5000, 5000, 5000);
+        row("9: half is lost of spin", x, 3, 1000, 1000, 1000, 1000);
+        x.set(4, 99);
+        x.go(0, 0, 1);
+        row("9: 4950 are lost", x, 2, 50, 50, 50, 50);
+    }
+
     private static void twistsByHand() {
         GallopRoads x = new GallopRoads();
         Due.law(x, "twist 5;");
@@ -317,7 +331,8 @@ public final class DeckTest {
         Due.law(x, "lift side*100+holes;");
         DUE.is("11: numbers of the deck", x.push(2, 0, 0, false), 3117);
         DUE.is("11: nothing moved", x.count(2), 2);
-        Due.law(x, "lift tick;");
+        Due.law(x, "lift tick;twist turn*1000+spin;");
+        DUE.is("11: turn and spin of piece 2", x.push(3, 0, 2, true), 60_040);
         x.go(3, 0, 1);
         DUE.is("11: tick in a tick is how many there were", x.piece(0, 2), 4);
         DUE.is("11: tick now", x.push(3, 0, 0, false), 3);

@@ -62,14 +62,14 @@ public final class FilmTest {
     private static void piecesThatAreNoMore() {
         GallopRoads x = DeckTest.bare("");
         x.deck(8);
-        x.film(1, 7, 5, 5);
+        x.film(1, 7, 500, 500);
         x.film(1, 1, 50, 0);
         DUE.is("19: piece 7", x.barred(0, 0, 0, 1, 100, 10), 0);
         x.deck(7);
         DUE.is("19: no piece 7", x.barred(0, 0, 0, 1, 100, 10), 1);
         DUE.is("19: no matter", x.barred(0, 0, 0, 1, 100, 50), -1);
         x.deck(8);
-        DUE.is("19: again", x.barred(0, 0, 0, 1, 100, 94), 0);
+        DUE.is("19: again", x.barred(0, 0, 0, 1, 100, 499), 0);
     }
 
     private static void wrongInputs() {

@@ -90,6 +90,8 @@ public final class LawsTest {
         fault("lifts 1;", 1, 0);
         fault("  lifts 1;", 1, 2);
         fault("Lift 1;", 1, 0);
+        fault("liftz 1;", 1, 0);
+        fault("alift 1;", 1, 0);
         fault("1;", 1, 0);
         fault(";", 1, 0);
         fault("lift", 1, 4);
@@ -154,6 +156,7 @@ public final class LawsTest {
         fault("lift ((((((least (1,2)))))));", 3, 17);
         fault("lift 1 if " + Due.times("not ", 7) + "1=1;", 3, 34);
         fault("lift 1 if [[[[[[[1=1]]]]]]];", 3, 16);
+        fault("lift least(1,((((((1)))))));", 3, 18);
         fault("lift 1 if not [not [not [(1)=1]]];", 3, 25);
         fault("lift 1 if not [not [not [1=(1)]]];", 3, 27);
         fault("lift 1 if [[[not not not (1)=1]]];", 3, 25);

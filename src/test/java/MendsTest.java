@@ -5,6 +5,7 @@ public final class MendsTest {
     public static void main(String[] args) {
         mends();
         calm();
+        calmOfEachShape();
         mended();
         withinBounds();
         week();
@@ -53,6 +54,18 @@ public final class MendsTest {
         DUE.is("21: the deck stays", y.count(2), 0);
     }
 
+    /** Of 8 pieces, piece 4 is up with one half alone, 7 is down with two, 3 is down with three. */
+    private static void calmOfEachShape() {
+        for (String move : new String[] {"lift SIZE if tick=0 and height=", "twist SIZE if tick=0 and turn="}) {
+            GallopRoads x = DeckTest.bare(move.replace("SIZE", "1") + "100 and piece=4;",
+                move.replace("SIZE", "0-1") + "0-100 and piece=7;", move.replace("SIZE", "0-1") + "0-100 and piece=3;");
+            x.deck(8);
+            for (int law = 0; law < 3; law++) {
+                DUE.is("21: " + move + ", halves " + (law + 1), x.calm(law, 0), false);
+            }
+        }
+    }
+
     private static void mended() {
         GallopRoads x = DeckTest.bare("lift sign(height) if holes<50;twist sign(turn) if wind>40;", "lift 1;");
         DUE.is("22: no mends", x.mended(0, 0), -1);
@@ -73,6 +86,12 @@ public final class MendsTest {
         y.mend(6, 51, 7);
         y.mend(6, 1, 0);
         DUE.is("22: of the same cost the first by bits", y.mended(0, 0), 2);
+        GallopRoads later = DeckTest.bare("lift sign(height) if holes<50;");
+        later.mend(6, 50, 40);
+        later.mend(6, 25, 19);
+        later.mend(6, 50, 39);
+        later.mend(6, 25, 19);
+        DUE.is("22: a later one that costs less", later.mended(0, 0), 10);
         GallopRoads z = DeckTest.bare("lift sign(height) if holes<50;");
         z.mend(6, -99, 0);
         z.mend(6, 50, 0);
@@ -141,6 +160,10 @@ public final class MendsTest {
         w.mend(5, 1, 0);
         w.mend(6, 2, 0);
         DUE.is("23: 12 is", w.week(0, 0), 1);
+        GallopRoads v = DeckTest.bare("lift sign(height) if wind=13 and holes=0;");
+        v.mend(5, 1, 0);
+        v.mend(6, 2, 0);
+        DUE.is("23: 13 is none", v.week(0, 0), 0);
     }
 
     private static void spans() {

@@ -102,6 +102,10 @@ public final class OthersTest {
         DUE.illegal("29: 1000", () -> x.known(1000));
         DUE.illegal("30: -1", () -> x.could(-1));
         DUE.illegal("30: 256", () -> x.could(256));
+        GallopRoads one = new GallopRoads();
+        one.paper(1, 128, 0);
+        DUE.is("30: one paper", one.could(128), 1);
+        DUE.is("30: never", one.could(129), -1);
         GallopRoads y = new GallopRoads();
         y.paper(0, 4, 0);
         y.paper(3, 1, 6);

@@ -41,22 +41,22 @@ public final class TrialsTest {
     }
 
     private static void trialsStartAnew() {
-        GallopRoads x = DeckTest.bare("twist 500 if piece=1;", "twist turn/20;");
+        GallopRoads x = DeckTest.bare("twist 500 if piece<2;", "twist turn/20;");
         x.set(8, 1);
         x.set(9, 200);
         int anew = x.slip(1, 0, 1);
         DUE.is("12: no growth while stays hold", x.grows(1, 0, 1, 1), false);
         x.go(0, 0, 60);
-        DUE.is("12: slipped", x.count(9), 1);
-        DUE.is("12: torn", x.count(10), 2);
+        DUE.is("12: slipped", x.count(9), 2);
+        DUE.is("12: torn", x.count(10), 1);
         DUE.is("12: nothing slipped in a trial", x.grows(1, 0, 1, 1), false);
         DUE.is("17: nothing slipped in a trial", x.slip(1, 0, 1), anew);
         DUE.is("15: nothing slipped in a trial", x.first(1, 0, 1, 1, false), -1);
         DUE.is("15: nothing torn in a trial", x.first(1, 0, 1, 1, true), -1);
         DUE.is("12: the deck stays as it was", x.count(2), 60);
         DUE.is("12: its turns, too", x.piece(1, 1), 500 * 60 * 61 / 2);
-        DUE.is("12: its stays, too", x.count(9), 1);
-        DUE.is("12: its links, too", x.count(10), 2);
+        DUE.is("12: its stays, too", x.count(9), 2);
+        DUE.is("12: its links, too", x.count(10), 1);
     }
 
     private static void lines() {
@@ -84,6 +84,12 @@ public final class TrialsTest {
         DUE.is("14: by size 1 alone", y.why(1, 0, 1, 1), 2);
         DUE.is("14: by 100 and 1000", y.why(2, 0, 1, 1), 0);
         DUE.is("14: not by 1000", y.why(3, 0, 1, 1), 3);
+        GallopRoads z = DeckTest.bare("twist 1 if tick=0 and [turn=100 or turn=200];", "twist 1 if tick=0 and not turn=1000;",
+            "twist 1 if tick=0 and turn=1;", "twist 1 if tick=0 and [turn=100 or turn=1 or turn=1000];");
+        DUE.is("14: 100 and 200", z.why(0, 0, 1, 1), 1);
+        DUE.is("14: all but 1000", z.why(1, 0, 1, 1), 3);
+        DUE.is("14: 1 alone", z.why(2, 0, 1, 1), 2);
+        DUE.is("14: 100 without 200, 1 with 1000", z.why(3, 0, 1, 1), 0);
     }
 
     private static void breaks() {
