@@ -592,7 +592,7 @@ public final class GallopRoads {
 
     // ---- classes inside
 
-    /** Numbers by index, 0 beyond both ends: here alone an index is tested, for all who use it. */
+    /** Numbers by index, 0 beyond both ends: so no index, whoever comes with it, makes the machine throw. */
     private static final class Row {
         private final int[] cells;
 

@@ -6,6 +6,7 @@ public final class LawsTest {
         newObject();
         feeds();
         lawNumbersAndTape();
+        endsAtN();
         faultsOfKindOne();
         faultsOfKindTwo();
         faultsOfKindThree();
@@ -77,6 +78,18 @@ public final class LawsTest {
         DUE.is("3: the tape is empty then, too", x.count(8), 0);
         DUE.is("4: no fault of it", x.fault(), -1);
         DUE.is("3: four", x.count(1), 4);
+    }
+
+    private static void endsAtN() {
+        GallopRoads x = new GallopRoads();
+        x.feed(0x6C696674, 0x20393939, 0x39393B00, 0, 0);
+        DUE.is("3: 'lift 9999' of 'lift 99999;'", x.law(9), -9);
+        DUE.is("4: it ends too early", x.fault(), 9);
+        x.feed(0x6C696674, 0x73000000, 0, 0, 0);
+        DUE.is("3: 'lift' of 'lifts'", x.law(4), -9);
+        DUE.is("4: it ends too early, too", x.fault(), 4);
+        DUE.illegal("3: nothing on the tape", () -> x.law(1));
+        DUE.is("4: what throws changes nothing", x.fault(), 4);
     }
 
     private static void fault(String text, int kind, int place) {
@@ -201,6 +214,7 @@ public final class LawsTest {
         told("lift 7/0;", 0);
         told("lift 5+7/(wind-7);", 5);
         told("lift sign(9)*100+sign(0)*10+sign(0-9);", 99);
+        told("lift sign(1)*10-sign(0-1);", 11);
         told("lift least(3,4)*10+least(4,3);", 33);
         told("lift most(3,4)*10+most(4,0-3);", 44);
         told("lift 3;twist 1000;lift 4;", 7);
