@@ -73,6 +73,68 @@ final class Due {
         return x.law(text.length());
     }
 
+    /** The text is no law: law() answers its fault, fault() its place, and there is no law more. */
+    void faulty(String text, int kind, int place) {
+        GallopRoads x = new GallopRoads();
+        is("3: law '" + text + "'", law(x, text), kind - 10);
+        is("4: fault of '" + text + "'", x.fault(), place);
+        is("3: no law of '" + text + "'", x.count(1), 0);
+    }
+
+    void lawful(String text) {
+        GallopRoads x = new GallopRoads();
+        is("3: law '" + text + "'", law(x, text), 0);
+        is("4: no fault of '" + text + "'", x.fault(), -1);
+    }
+
+    /** The text is a law, and tells so much lift at wind 7 of a piece at rest. */
+    void lifts(String text, int lift) {
+        GallopRoads x = new GallopRoads();
+        int law = law(x, text);
+        is("law '" + text + "'", law, 0);
+        if (law == 0) {
+            is("lift told by '" + text + "'", x.push(0, 7, 0, false), lift);
+        }
+    }
+
+    /** All that calls can see of an object without changing it (some hundred calls). */
+    static String seen(GallopRoads x) {
+        StringBuilder all = new StringBuilder();
+        for (int what = 0; what < 30; what++) {
+            if (what < 11 || what > 19) {
+                all.append(what).append(':').append(x.count(what)).append(' ');
+            }
+        }
+        all.append("fault ").append(x.fault()).append("\npieces");
+        for (int i = 0; i < x.count(0); i++) {
+            for (int what = 0; what < 6; what++) {
+                all.append(' ').append(x.piece(i, what));
+            }
+        }
+        all.append("\nhours");
+        for (int bridge = 0; bridge < x.count(5); bridge++) {
+            all.append(' ').append(x.hours(bridge));
+        }
+        all.append("\nknown ").append(x.known(0)).append(' ').append(x.known(500)).append(' ').append(x.known(999));
+        if (x.count(1) > 0) {
+            all.append("\nbarred ").append(x.barred(0, 9, 1, 2, 50, 3)).append(" mended ").append(x.mended(0, 9));
+            for (int day = 0; day < x.count(4); day++) {
+                all.append(" day ").append(x.week(0, day));
+            }
+            for (int law = 0; law < x.count(1); law++) {
+                all.append(" push ").append(x.push(law, 9, 1, false)).append(' ').append(x.push(law, 9, 1, true));
+            }
+        }
+        return all.toString();
+    }
+
+    void same(String what, String got, String want) {
+        if (!got.equals(want)) {
+            wrong++;
+            System.out.println(what + ": is\n" + got + "\ndue is\n" + want);
+        }
+    }
+
     static String times(String text, int n) {
         StringBuilder all = new StringBuilder();
         for (int k = 0; k < n; k++) {

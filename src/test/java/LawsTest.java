@@ -92,150 +92,133 @@ public final class LawsTest {
         DUE.is("4: what throws changes nothing", x.fault(), 4);
     }
 
-    private static void fault(String text, int kind, int place) {
-        GallopRoads x = new GallopRoads();
-        DUE.is("3: law '" + text + "'", Due.law(x, text), kind - 10);
-        DUE.is("4: fault of '" + text + "'", x.fault(), place);
-        DUE.is("3: no law of '" + text + "'", x.count(1), 0);
-    }
-
     private static void faultsOfKindOne() {
-        fault("lifts 1;", 1, 0);
-        fault("  lifts 1;", 1, 2);
-        fault("Lift 1;", 1, 0);
-        fault("liftz 1;", 1, 0);
-        fault("alift 1;", 1, 0);
-        fault("1;", 1, 0);
-        fault(";", 1, 0);
-        fault("lift", 1, 4);
-        fault("lift  ", 1, 6);
-        fault("lift;", 1, 4);
-        fault("lift 1", 1, 6);
-        fault("lift 1  ", 1, 8);
-        fault("lift 1;x", 1, 7);
-        fault("lift 1;;", 1, 7);
-        fault("lift -1;", 1, 5);
-        fault("lift 1+;", 1, 7);
-        fault("lift 1 2;", 1, 7);
-        fault("lift 1 10000;", 1, 7);
-        fault("lift 1 (((((((", 1, 7);
-        fault("lift 12up;", 1, 7);
-        fault("lift ups;", 1, 5);
-        fault("lift upif 1=1;", 1, 5);
-        fault("lift lift;", 1, 5);
-        fault("lift (1;", 1, 7);
-        fault("lift 1);", 1, 6);
-        fault("lift ();", 1, 6);
-        fault("lift sign 3;", 1, 10);
-        fault("lift sign(1,2);", 1, 11);
-        fault("lift least(1);", 1, 12);
-        fault("lift least(1,2,3);", 1, 14);
-        fault("lift most(1 2);", 1, 12);
-        fault("lift [1];", 1, 5);
-        fault("lift 1 < 2;", 1, 7);
-        fault("lift 1 and 1;", 1, 7);
-        fault("lift 1 if;", 1, 9);
-        fault("lift 1 if ", 1, 10);
-        fault("lift 1 if up;", 1, 12);
-        fault("lift 1 if up<=1;", 1, 13);
-        fault("lift 1 if up<1>2;", 1, 14);
-        fault("lift 1 if (up<1);", 1, 13);
-        fault("lift 1 if [up<1;", 1, 15);
-        fault("lift 1 if up<1];", 1, 14);
-        fault("lift 1 if not;", 1, 13);
-        fault("lift 1 if up<1 not up>1;", 1, 15);
-        fault("lift 1 if up<1 or;", 1, 17);
-        fault("lift 1 if up<1 if up>1;", 1, 15);
-        fault("lift\t1;", 1, 4);
-        fault("lift 1;\n", 1, 7);
-        fault("lift 1\u0000;", 1, 6);
-        fault("lift \u00ff;", 1, 5);
-        fault(Due.times("lift 1;", 12) + "else", 1, 84);
+        DUE.faulty("lifts 1;", 1, 0);
+        DUE.faulty("  lifts 1;", 1, 2);
+        DUE.faulty("Lift 1;", 1, 0);
+        DUE.faulty("liftz 1;", 1, 0);
+        DUE.faulty("alift 1;", 1, 0);
+        DUE.faulty("1;", 1, 0);
+        DUE.faulty(";", 1, 0);
+        DUE.faulty("lift", 1, 4);
+        DUE.faulty("lift  ", 1, 6);
+        DUE.faulty("lift;", 1, 4);
+        DUE.faulty("lift 1", 1, 6);
+        DUE.faulty("lift 1  ", 1, 8);
+        DUE.faulty("lift 1;x", 1, 7);
+        DUE.faulty("lift 1;;", 1, 7);
+        DUE.faulty("lift -1;", 1, 5);
+        DUE.faulty("lift 1+;", 1, 7);
+        DUE.faulty("lift 1 2;", 1, 7);
+        DUE.faulty("lift 1 10000;", 1, 7);
+        DUE.faulty("lift 1 (((((((", 1, 7);
+        DUE.faulty("lift 12up;", 1, 7);
+        DUE.faulty("lift ups;", 1, 5);
+        DUE.faulty("lift upif 1=1;", 1, 5);
+        DUE.faulty("lift lift;", 1, 5);
+        DUE.faulty("lift (1;", 1, 7);
+        DUE.faulty("lift 1);", 1, 6);
+        DUE.faulty("lift ();", 1, 6);
+        DUE.faulty("lift sign 3;", 1, 10);
+        DUE.faulty("lift sign(1,2);", 1, 11);
+        DUE.faulty("lift least(1);", 1, 12);
+        DUE.faulty("lift least(1,2,3);", 1, 14);
+        DUE.faulty("lift most(1 2);", 1, 12);
+        DUE.faulty("lift [1];", 1, 5);
+        DUE.faulty("lift 1 < 2;", 1, 7);
+        DUE.faulty("lift 1 and 1;", 1, 7);
+        DUE.faulty("lift 1 if;", 1, 9);
+        DUE.faulty("lift 1 if ", 1, 10);
+        DUE.faulty("lift 1 if up;", 1, 12);
+        DUE.faulty("lift 1 if up<=1;", 1, 13);
+        DUE.faulty("lift 1 if up<1>2;", 1, 14);
+        DUE.faulty("lift 1 if (up<1);", 1, 13);
+        DUE.faulty("lift 1 if [up<1;", 1, 15);
+        DUE.faulty("lift 1 if up<1];", 1, 14);
+        DUE.faulty("lift 1 if not;", 1, 13);
+        DUE.faulty("lift 1 if up<1 not up>1;", 1, 15);
+        DUE.faulty("lift 1 if up<1 or;", 1, 17);
+        DUE.faulty("lift 1 if up<1 if up>1;", 1, 15);
+        DUE.faulty("lift\t1;", 1, 4);
+        DUE.faulty("lift 1;\n", 1, 7);
+        DUE.faulty("lift 1\u0000;", 1, 6);
+        DUE.faulty("lift \u00ff;", 1, 5);
+        DUE.faulty(Due.times("lift 1;", 12) + "else", 1, 84);
     }
 
     private static void faultsOfKindTwo() {
-        fault("lift 10000;", 2, 5);
-        fault("lift 1+(up*  010000);", 2, 13);
-        fault("lift 99999999999999999999999999;", 2, 5);
-        fault("lift 4294967297;", 2, 5);
-        fault("lift 1 if 2<10001;", 2, 12);
+        DUE.faulty("lift 10000;", 2, 5);
+        DUE.faulty("lift 1+(up*  010000);", 2, 13);
+        DUE.faulty("lift 99999999999999999999999999;", 2, 5);
+        DUE.faulty("lift 4294967297;", 2, 5);
+        DUE.faulty("lift 1 if 2<10001;", 2, 12);
     }
 
     private static void faultsOfKindThree() {
-        fault(Due.times("lift 1;", 13), 3, 84);
-        fault(Due.times("lift 1;", 12) + "  twist nonsense", 3, 86);
-        fault("lift (((((((1)))))));", 3, 11);
-        fault("lift ((((((sign(1)))))));", 3, 15);
-        fault("lift ((((((least (1,2)))))));", 3, 17);
-        fault("lift 1 if " + Due.times("not ", 7) + "1=1;", 3, 34);
-        fault("lift 1 if [[[[[[[1=1]]]]]]];", 3, 16);
-        fault("lift least(1,((((((1)))))));", 3, 18);
-        fault("lift 1 if not [not [not [(1)=1]]];", 3, 25);
-        fault("lift 1 if not [not [not [1=(1)]]];", 3, 27);
-        fault("lift 1 if [[[not not not (1)=1]]];", 3, 25);
-    }
-
-    private static void allowed(String text) {
-        DUE.is("3: law '" + text + "'", Due.law(new GallopRoads(), text), 0);
+        DUE.faulty(Due.times("lift 1;", 13), 3, 84);
+        DUE.faulty(Due.times("lift 1;", 12) + "  twist nonsense", 3, 86);
+        DUE.faulty("lift (((((((1)))))));", 3, 11);
+        DUE.faulty("lift ((((((sign(1)))))));", 3, 15);
+        DUE.faulty("lift ((((((least (1,2)))))));", 3, 17);
+        DUE.faulty("lift 1 if " + Due.times("not ", 7) + "1=1;", 3, 34);
+        DUE.faulty("lift 1 if [[[[[[[1=1]]]]]]];", 3, 16);
+        DUE.faulty("lift least(1,((((((1)))))));", 3, 18);
+        DUE.faulty("lift 1 if not [not [not [(1)=1]]];", 3, 25);
+        DUE.faulty("lift 1 if not [not [not [1=(1)]]];", 3, 27);
+        DUE.faulty("lift 1 if [[[not not not (1)=1]]];", 3, 25);
     }
 
     private static void whatIsAllowed() {
-        allowed("lift 9999;");
-        allowed("lift 0000000000000000000009999;");
-        allowed("lift1;twist2if1=1;");
-        allowed("  lift  1  ;  twist ( 2 ) if  [ 1 = 1 ]  ;  ");
-        allowed(Due.times("lift 1;", 12) + "   ");
-        allowed("lift ((((((1))))))+((((((1))))));");
-        allowed("lift 1 if [[[[[[1=1]]]]]] and [[[[[[1=1]]]]]];");
-        allowed("lift 1 if " + Due.times("not ", 6) + "1=1 and " + Due.times("not ", 6) + "1=1;");
-        allowed("lift 1 if not not not [[[1=1]]] or not [not [not [1=1]]] and ((((((1))))))=1;");
-        allowed("lift 1 if not 1=1 and not 1=1 and not 1=1 and not 1=1 and not 1=1 and not 1=1 and not (1)=1;");
-        allowed("lift least(most(sign(1),2),least(3,4));");
-        allowed("lift 1 if 1<2 and 2>1 or 3=3;");
-        allowed("lift " + Due.times("1+", 145) + "1  ; ");
-    }
-
-    private static void told(String clause, int lift) {
-        GallopRoads x = new GallopRoads();
-        DUE.is("law '" + clause + "'", Due.law(x, clause), 0);
-        DUE.is("lift told by '" + clause + "'", x.push(0, 7, 0, false), lift);
+        DUE.lawful("lift 9999;");
+        DUE.lawful("lift 0000000000000000000009999;");
+        DUE.lawful("lift1;twist2if1=1;");
+        DUE.lawful("  lift  1  ;  twist ( 2 ) if  [ 1 = 1 ]  ;  ");
+        DUE.lawful(Due.times("lift 1;", 12) + "   ");
+        DUE.lawful("lift ((((((1))))))+((((((1))))));");
+        DUE.lawful("lift 1 if [[[[[[1=1]]]]]] and [[[[[[1=1]]]]]];");
+        DUE.lawful("lift 1 if " + Due.times("not ", 6) + "1=1 and " + Due.times("not ", 6) + "1=1;");
+        DUE.lawful("lift 1 if not not not [[[1=1]]] or not [not [not [1=1]]] and ((((((1))))))=1;");
+        DUE.lawful("lift 1 if not 1=1 and not 1=1 and not 1=1 and not 1=1 and not 1=1 and not 1=1 and not (1)=1;");
+        DUE.lawful("lift least(most(sign(1),2),least(3,4));");
+        DUE.lawful("lift 1 if 1<2 and 2>1 or 3=3;");
+        DUE.lawful("lift " + Due.times("1+", 145) + "1  ; ");
     }
 
     private static void values() {
-        told("", 0);
-        told("twist 5;", 0);
-        told("lift 1+2*3-4/2;", 5);
-        told("lift 10-3-2;", 5);
-        told("lift 100/7*7;", 98);
-        told("lift 100/(7*7);", 2);
-        told("lift (1+2)*3;", 9);
-        told("lift (0-7)/2;", -3);
-        told("lift 7/(0-2);", -3);
-        told("lift 7/0;", 0);
-        told("lift 5+7/(wind-7);", 5);
-        told("lift sign(9)*100+sign(0)*10+sign(0-9);", 99);
-        told("lift sign(1)*10-sign(0-1);", 11);
-        told("lift least(3,4)*10+least(4,3);", 33);
-        told("lift most(3,4)*10+most(4,0-3);", 44);
-        told("lift 3;twist 1000;lift 4;", 7);
-        told("lift 9999*10;", 99_990);
-        told("lift 9999*10+10;", 100_000);
-        told("lift 9999*10+11;", 100_000);
-        told("lift 0-9999*10-11;", -100_000);
-        told("lift 9999*10;lift 9999*10;lift 0-9999*10;", 99_990);
+        DUE.lifts("", 0);
+        DUE.lifts("twist 5;", 0);
+        DUE.lifts("lift 1+2*3-4/2;", 5);
+        DUE.lifts("lift 10-3-2;", 5);
+        DUE.lifts("lift 100/7*7;", 98);
+        DUE.lifts("lift 100/(7*7);", 2);
+        DUE.lifts("lift (1+2)*3;", 9);
+        DUE.lifts("lift (0-7)/2;", -3);
+        DUE.lifts("lift 7/(0-2);", -3);
+        DUE.lifts("lift 7/0;", 0);
+        DUE.lifts("lift 5+7/(wind-7);", 5);
+        DUE.lifts("lift sign(9)*100+sign(0)*10+sign(0-9);", 99);
+        DUE.lifts("lift sign(1)*10-sign(0-1);", 11);
+        DUE.lifts("lift least(3,4)*10+least(4,3);", 33);
+        DUE.lifts("lift most(3,4)*10+most(4,0-3);", 44);
+        DUE.lifts("lift 3;twist 1000;lift 4;", 7);
+        DUE.lifts("lift 9999*10;", 99_990);
+        DUE.lifts("lift 9999*10+10;", 100_000);
+        DUE.lifts("lift 9999*10+11;", 100_000);
+        DUE.lifts("lift 0-9999*10-11;", -100_000);
+        DUE.lifts("lift 9999*10;lift 9999*10;lift 0-9999*10;", 99_990);
         // 2^31 wraps to the least int; that by -1 is itself again
-        told("lift 8192*8192*32;", -100_000);
-        told("lift 8192*8192*32/(0-1);", -100_000);
-        told("lift 8192*8192*64+3;", 3);
-        told("lift 8192*8192*32;lift 8192*8192*32;lift 5;", 5);
-        told("lift wind;", 7);
-        told("lift side;", 8);
-        told("lift holes+1;", 1);
-        told("lift 00012;", 12);
+        DUE.lifts("lift 8192*8192*32;", -100_000);
+        DUE.lifts("lift 8192*8192*32/(0-1);", -100_000);
+        DUE.lifts("lift 8192*8192*64+3;", 3);
+        DUE.lifts("lift 8192*8192*32;lift 8192*8192*32;lift 5;", 5);
+        DUE.lifts("lift wind;", 7);
+        DUE.lifts("lift side;", 8);
+        DUE.lifts("lift holes+1;", 1);
+        DUE.lifts("lift 00012;", 12);
     }
 
     private static void holds(String condition, boolean is) {
-        told("lift 2;lift 40 if " + condition + ";", is ? 42 : 2);
+        DUE.lifts("lift 2;lift 40 if " + condition + ";", is ? 42 : 2);
     }
 
     private static void conditions() {
