@@ -46,6 +46,7 @@ public final class EdgesOfFilmAndMendsTest {
         daysOfTheWeek();
         spansFrom0To50();
         spanIsCut();
+        spanOfTheGreatestPushes();
         spanOfThoseThatThereAre();
         DUE.end();
     }
@@ -515,6 +516,22 @@ public final class EdgesOfFilmAndMendsTest {
             DUE.is("24: 99 hundredths of -3 are -2, of -4 are -3", x.span(0, kind, 2, 1, true), 30);
             DUE.is("24: 149 hundredths of -2 are -2", x.span(0, kind, 2, 49, false), 20);
             DUE.is("24: 150 hundredths of -2 are -3", x.span(0, kind, 2, 50, false), 10);
+        }
+    }
+
+    /** TOLD is bounded, and "times 100 less s (or 100 and s), by 100" then: 100,000 may become 150,000. */
+    private static void spanOfTheGreatestPushes() {
+        for (int kind = 0; kind < 2; kind++) {
+            String move = kind == 0 ? "lift " : "twist ";
+            String place = kind == 0 ? "height" : "turn";
+            String once = move + "9999*20 if tick=0;" + move + "0-9999*20 if tick=1;" + move + "1 if tick=40 and " + place;
+            GallopRoads x = DeckTest.bare(once + ">1001*100;", once + ">1501*100-1;", once + ">1501*100;", once + "<1001*100;");
+            DUE.is("24: 100,000 as told", x.line(0, kind, 1), -1);
+            DUE.is("24: above 100,000 by more", x.span(0, kind, 1, 50, false), 0);
+            DUE.is("24: 150,000 by half more", x.span(1, kind, 1, 50, false), 0);
+            DUE.is("24: 149,000", x.span(1, kind, 1, 49, false), -1);
+            DUE.is("24: no more than 150,000", x.span(2, kind, 1, 50, false), -1);
+            DUE.is("24: less by less, but 1 is nothing then", x.span(3, kind, 1, 50, false), -1);
         }
     }
 
